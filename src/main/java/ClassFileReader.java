@@ -115,7 +115,10 @@ public final class ClassFileReader {
     }
 
     public long constant(int k) {
-        return mirror == null ? NONE : mirror.pool.constantOf(mirror.contentItem(Tables.FIELDS, k, Known.CONSTANT_VALUE));
+        if (mirror == null) {
+            return NONE;
+        }
+        return mirror.pool.constantOf(mirror.contentItem(Tables.FIELDS, k, Known.CONSTANT_VALUE));
     }
 
     public int deprecated(int kind, int k) {
@@ -321,7 +324,6 @@ public final class ClassFileReader {
 
         void empty() {
             Arrays.fill(tags, 0);
-            Arrays.fill(shapes, 0);
         }
 
         void readEntries(int n) {
@@ -914,10 +916,10 @@ public final class ClassFileReader {
             tables.begin(kind, k, place);
             tape.want(pool.names(name, Pool.TEXT), INDEX, place);
             tape.want(pool.names(type, Pool.TEXT), INDEX, place + 2);
-            boolean isSpecial = kind == Tables.METHODS && (pool.spells(name, "<init>") || pool.spells(name, "<clinit>"));
+            boolean isMethod = kind == Tables.METHODS;
+            boolean isSpecial = isMethod && (pool.spells(name, "<init>") || pool.spells(name, "<clinit>"));
             tape.want(isSpecial || pool.hasShape(name, Grammar.MEMBER_NAME), NAME, place);
-            int typeShape = kind == Tables.METHODS ? Grammar.METHOD_TYPE : Grammar.FIELD_TYPE;
-            tape.want(pool.hasShape(type, typeShape), TYPE, place + 2);
+            tape.want(pool.hasShape(type, isMethod ? Grammar.METHOD_TYPE : Grammar.FIELD_TYPE), TYPE, place + 2);
         }
 
         private boolean fitMember(int kind, int k, int flags) {

@@ -134,7 +134,8 @@ public final class AttributesTest {
     /** What a table does not know is skipped whatever it holds, may come twice, and may have any length. */
     private static void unknown() {
         String[] names = {"Signature", "Deprecated", "ConstantValue", "Exceptions", "InnerClasses", "NestMembers",
-            "PermittedSubclasses", "NestHost", "Record", "Code", "", "signature", "Signatur", "Signatures", "SourceFile"};
+            "PermittedSubclasses", "NestHost", "Record", "Code", "", "signature", "Signatur", "Signatures",
+            "SourceFile"};
         for (int kind = FIELD; kind <= FILE; kind++) {
             for (String name : names) {
                 FileBytes file = upTo(kind, name);
@@ -145,9 +146,10 @@ public final class AttributesTest {
                 file.u2(ATTRIBUTE_AGAIN);
                 file.u4(0);
                 end(kind, file);
+                // one byte is a length that no known attribute may have
                 boolean known = knows(kind, name);
-                // of those that are known, all but Deprecated need at least two bytes, and that one none
-                check.dueRead(name + " of a " + KINDS[kind], file, known ? ClassFileReader.LENGTH : 0, known ? length : -1);
+                int code = known ? ClassFileReader.LENGTH : 0;
+                check.dueRead(name + " of a " + KINDS[kind], file, code, known ? length : -1);
             }
             long[] lengths = {2, 65536, 2147483647L, 2147483648L, 4294967295L};
             for (long length : lengths) {
@@ -350,7 +352,8 @@ public final class AttributesTest {
             {SELF, 0, SELF, 0}, {SELF, SELF, 65535, 0}, {WORD, NAME, SELF, 0}, {SELF, NAME, SELF, 0}};
         int[] items = {0, 0, 1, 1, 1, 2, 2, 0, 1};
         for (int i = 0; i < wrong.length; i++) {
-            FileBytes file = withList(FILE, name, 18, 2, SELF, 0, 0, 0, wrong[i][0], wrong[i][1], wrong[i][2], wrong[i][3]);
+            int[] w = wrong[i];
+            FileBytes file = withList(FILE, name, 18, 2, SELF, 0, 0, 0, w[0], w[1], w[2], w[3]);
             check.dueRead("wrong inner class " + i, file, ClassFileReader.INDEX, length + 14 + 2 * items[i]);
         }
         check.dueRead("looked at when read", withList(FILE, name, 10, 1, NAME), ClassFileReader.INDEX, length + 6);

@@ -7,6 +7,7 @@ public final class GrammarTest {
         methodTypes();
         dimensions();
         memberNames();
+        lastText();
         check.end();
     }
 
@@ -36,8 +37,8 @@ public final class GrammarTest {
             dueMethod("f", type, 0);
         }
         String[] wrong = {"", "(", ")", "()", "(I", "(I)", "I", "V", "()VV", "()IV", "()V)", "(V)V", "([V)V", "([)V",
-            "()[V", "()[", "(La)V", "(L;)V", "()L;", "()La", ")(V", "((I)V)V", "(I)(V", "(I,J)V", "()V;", "(I)VI", "(I)v",
-            " ()V", "[()V", "(I[)V"};
+            "()[V", "()[", "(La)V", "(L;)V", "()L;", "()La", ")(V", "((I)V)V", "(I)(V", "(I,J)V", "()V;", "(I)VI",
+            "(I)v", " ()V", "[()V", "(I[)V"};
         for (String type : wrong) {
             dueMethod("f", type, ClassFileReader.TYPE);
         }
@@ -79,6 +80,25 @@ public final class GrammarTest {
         for (String name : wrong) {
             dueMethod(name, "()V", ClassFileReader.NAME);
         }
+    }
+
+    /** A text ends where its length says, whatever byte is next. */
+    private static void lastText() {
+        FileBytes dot = FileBytes.start();
+        int self = dot.classOf("A");
+        int type = dot.text("I");
+        int name = dot.text("f");
+        dot.endPool().header('.' << 8, self, 0);
+        dot.u2(1);
+        dot.member(25, name, type, 0);
+        dot.u2(0);
+        dot.u2(0);
+        check.dueSound("a name before a dot", dot);
+        FileBytes semicolon = FileBytes.start();
+        int array = semicolon.one(FileBytes.CLASS, 2);
+        semicolon.text("[La");
+        semicolon.endPool().header(';' << 8, array, 0);
+        check.dueRead("a type before a semicolon", semicolon, ClassFileReader.NAME, semicolon.placeOf(array));
     }
 
     private static void dueField(String name, String type, int code) {

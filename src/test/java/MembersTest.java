@@ -193,10 +193,10 @@ public final class MembersTest {
     private static boolean methodFits(int flags, boolean init, boolean inInterface) {
         boolean fits = atMostOne(flags);
         if ((flags & 1024) != 0) {
-            fits &= (flags & 2) == 0 && (flags & 8) == 0 && (flags & 16) == 0 && (flags & 32) == 0 && (flags & 256) == 0;
+            fits &= (flags & (2 + 8 + 16 + 32 + 256)) == 0;
         }
         if (init) {
-            fits &= (flags & 8) == 0 && (flags & 16) == 0 && (flags & 32) == 0 && (flags & 256) == 0 && (flags & 1024) == 0;
+            fits &= (flags & (8 + 16 + 32 + 256 + 1024)) == 0;
         }
         if (inInterface) {
             fits &= (flags & 3) == 1 || (flags & 3) == 2;

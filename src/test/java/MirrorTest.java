@@ -6,6 +6,7 @@ public final class MirrorTest {
         members();
         tables();
         bareFile();
+        behindTheLists();
         constants();
         strings();
         mirrorStays();
@@ -262,6 +263,38 @@ public final class MirrorTest {
         ClassFileReader y = readerOf(record);
         check.due("components of an empty Record", y.number(9), 0);
         check.due("an empty Record is there", y.number(11), 1);
+    }
+
+    /** What stands behind a list would name an entry too, but is none of its elements. */
+    private static void behindTheLists() {
+        FileBytes file = FileBytes.start();
+        int self = file.classOf("A");
+        int f = file.text("f");
+        int g = file.text("g");
+        int type = file.text("I");
+        int method = file.text("()V");
+        int exceptions = file.text("Exceptions");
+        int innerClasses = file.text("InnerClasses");
+        int signature = file.text("Signature");
+        file.endPool().header(33, self, 0, self);
+        check.due("the number of fields names the class", self, 2);
+        file.u2(2);
+        file.member(0, f, type, 0);
+        file.member(0, g, type, 0);
+        file.u2(1);
+        file.member(0, f, method, 1);
+        file.attribute(exceptions, 1, self);
+        file.u2(2);
+        file.attribute(innerClasses, 1, self, self, f, 0);
+        file.attribute(signature, g);
+        ClassFileReader x = readerOf(file);
+        dueRow(x, 2, "A");
+        check.due("exception(0, 0, 0)", x.exception(0, 0, 0), 'A');
+        check.due("exception(0, 1, 0)", x.exception(0, 1, 0), -1);
+        dueRow(x, 13, "A");
+        dueRow(x, 14, "A");
+        dueRow(x, 15, "f");
+        dueFlags(x, 2, 0);
     }
 
     private static void constants() {

@@ -2,12 +2,13 @@ import java.util.Arrays;
 import java.util.List;
 import java.util.Random;
 
-/** Promises 5 to 13 on many files made by a counted random source, right ones and damaged ones, held against the Model. */
+/** Promises 5 to 13 on many files, right and damaged, held against the Model; the seeds are always the same. */
 public final class RandomTest {
     private static final Check check = new Check();
-    private static final String[] ATTRIBUTES = {"Signature", "Deprecated", "ConstantValue", "Exceptions", "InnerClasses",
-        "NestMembers", "PermittedSubclasses", "NestHost", "Record", "Code"};
-    private static final String[] TYPES = {"I", "J", "F", "D", "Z", "[I", "La;", "Ljava/lang/String;", "()V", "(I)J", "V", ""};
+    private static final String[] ATTRIBUTES = {"Signature", "Deprecated", "ConstantValue", "Exceptions",
+        "InnerClasses", "NestMembers", "PermittedSubclasses", "NestHost", "Record", "Code"};
+    private static final String[] TYPES = {"I", "J", "F", "D", "Z", "[I", "La;", "Ljava/lang/String;",
+        "()V", "(I)J", "V", ""};
     private static final String[] NAMES = {"a", "b", "a/b", "<init>", "<clinit>", "[I", "x.y", "c"};
     private static final int FILES = 6000;
     private static final int DAMAGED = 40;
@@ -88,7 +89,8 @@ public final class RandomTest {
         types = new int[] {file.text("I"), file.text(TYPES[random.nextInt(8)])};
         values = new int[] {file.word(FileBytes.INT, random.nextInt()), value(file)};
         int type = file.text(chance(80) ? "()V" : TYPES[random.nextInt(TYPES.length)]);
-        names = new int[] {file.text("f"), file.text(chance(90) ? "g" : NAMES[random.nextInt(NAMES.length)]), file.text("<init>")};
+        String second = chance(90) ? "g" : NAMES[random.nextInt(NAMES.length)];
+        names = new int[] {file.text("f"), file.text(second), file.text("<init>")};
         if (chance(30)) {
             int both = file.two(FileBytes.NAMETYPE, names[random.nextInt(3)], pick(types[0], type));
             file.two(pick(9, 10, 11), classes[0], both);
@@ -96,7 +98,8 @@ public final class RandomTest {
         file.endPool();
         boolean inInterface = chance(20);
         int[] interfaces = Arrays.copyOf(classes, pick(0, 0, 0, 1, 2, 3));
-        file.header(inInterface ? 1536 : pick(33, 1, 1056, 17), classes[0], pick(0, classes[1], classes[2]), interfaces);
+        int flags = inInterface ? 1536 : pick(33, 1, 1056, 17);
+        file.header(flags, classes[0], pick(0, classes[1], classes[2]), interfaces);
         int fields = random.nextInt(3);
         file.u2(fields);
         for (int k = 0; k < fields; k++) {
@@ -249,7 +252,8 @@ public final class RandomTest {
         check.dueText(x, kind, texts.size(), null);
     }
 
-    private static void askOwners(String what, ClassFileReader x, int kind, List<Model.Owner> owners, int name, int signature) {
+    private static void askOwners(String what, ClassFileReader x, int kind, List<Model.Owner> owners, int name,
+        int signature) {
         for (int k = 0; k < owners.size(); k++) {
             Model.Owner owner = owners.get(k);
             check.dueText(x, name, k, owner.name);
