@@ -1,22 +1,6 @@
 /** Promise 5: attribute tables. */
-public final class AttributesTest {
+public final class AttributesTest extends AttributeTables {
     private static final Check check = new Check();
-
-    private static final int FIELD = 0;
-    private static final int METHOD = 1;
-    private static final int COMPONENT = 2;
-    private static final int FILE = 3;
-    private static final String[] KINDS = {"field", "method", "component", "file"};
-
-    private static final int SELF = 2;
-    private static final int ARRAY = 4;
-    private static final int WORD = 5;
-    private static final int NAME = 6;
-    private static final int TYPE = 7;
-    private static final int METHOD_TYPE = 8;
-    private static final int ATTRIBUTE = 9;
-    private static final int ATTRIBUTE_AGAIN = 10;
-    private static final int RECORD = 11;
 
     public static void main(String[] args) {
         names();
@@ -30,68 +14,6 @@ public final class AttributesTest {
         record();
         recordComponents();
         check.end();
-    }
-
-    /** A file up to the count of a table of the kind, which is left to be written. */
-    private static FileBytes upTo(int kind, String attribute, String type) {
-        FileBytes file = FileBytes.start();
-        file.classOf("A");
-        file.classOf("[I");
-        file.word(FileBytes.INT, 1);
-        file.text("f");
-        file.text(type);
-        file.text("()V");
-        file.text(attribute);
-        file.text(attribute);
-        file.text("Record");
-        file.endPool().header(33, SELF, 0);
-        file.u2(kind == FIELD ? 1 : 0);
-        if (kind == FIELD) {
-            file.u2(0);
-            file.u2(NAME);
-            file.u2(TYPE);
-            return file;
-        }
-        file.u2(kind == METHOD ? 1 : 0);
-        if (kind == METHOD) {
-            file.u2(0);
-            file.u2(NAME);
-            file.u2(METHOD_TYPE);
-        }
-        if (kind == COMPONENT) {
-            file.u2(1);
-            file.u2(RECORD);
-            file.u4(2);
-            file.u2(1);
-            file.u2(NAME);
-            file.u2(TYPE);
-        }
-        return file;
-    }
-
-    private static FileBytes upTo(int kind, String attribute) {
-        return upTo(kind, attribute, "I");
-    }
-
-    /** Ends the file behind the table, and gives the Record around it its length. */
-    private static FileBytes end(int kind, FileBytes file) {
-        if (kind == FIELD) {
-            file.u2(0);
-        }
-        if (kind == FIELD || kind == METHOD) {
-            file.u2(0);
-        }
-        if (kind == COMPONENT) {
-            int content = upTo(kind, attributeName(file)).size() - 6;
-            file.set2(content - 2, file.size() - content);
-        }
-        return file;
-    }
-
-    private static String attributeName(FileBytes file) {
-        int from = file.placeOf(ATTRIBUTE) + 3;
-        int to = file.placeOf(ATTRIBUTE_AGAIN);
-        return new String(file.toBytes(), from, to - from, java.nio.charset.StandardCharsets.ISO_8859_1);
     }
 
     private static void names() {
@@ -324,17 +246,6 @@ public final class AttributesTest {
             FileBytes file = withList(kind, name, 6, 2, SELF, index);
             check.dueRead(name + " of " + index, file, ClassFileReader.INDEX, length + 8);
         }
-    }
-
-    private static FileBytes withList(int kind, String name, long length, int... items) {
-        FileBytes file = upTo(kind, name);
-        file.u2(1);
-        file.u2(ATTRIBUTE);
-        file.u4(length);
-        for (int item : items) {
-            file.u2(item);
-        }
-        return file;
     }
 
     private static void innerClasses() {

@@ -2,12 +2,32 @@
 final class Check {
     private int wrong = 0;
     private int asked = 0;
+    private String sentence = "";
+    private int askedBefore = 0;
+
+    /** What follows tests this sentence of the document; a sentence without an answer asked for is a fault. */
+    void sentence(String words) {
+        endSentence();
+        sentence = words;
+        askedBefore = asked;
+    }
+
+    private void endSentence() {
+        if (!sentence.isEmpty() && asked == askedBefore) {
+            tell("nothing was asked");
+        }
+        sentence = "";
+    }
+
+    private void tell(String fault) {
+        wrong++;
+        System.out.println(sentence.isEmpty() ? fault : "\"" + sentence + "\": " + fault);
+    }
 
     void due(String call, long got, long want) {
         asked++;
         if (got != want) {
-            wrong++;
-            System.out.println(call + " answered " + got + ", due is " + want);
+            tell(call + " answered " + got + ", due is " + want);
         }
     }
 
@@ -37,6 +57,7 @@ final class Check {
     }
 
     void end() {
+        endSentence();
         System.out.println(asked + " answers, " + wrong + " of them wrong");
         if (wrong != 0 || asked == 0) {
             System.exit(1);

@@ -160,6 +160,30 @@ final class FileBytes {
         return this;
     }
 
+    /** Ends the pool and the file: a class of the pool, and no members or attributes. */
+    FileBytes endBare(int self) {
+        endPool().header(33, self, 0);
+        return endEmpty();
+    }
+
+    /** A file in order with just so many bytes, 41 or more, the last of them in an attribute that is skipped. */
+    static FileBytes filledTo(int total) {
+        FileBytes file = start();
+        int self = file.classOf("A");
+        int attribute = file.text("X");
+        file.endPool().header(33, self, 0);
+        file.u2(0);
+        file.u2(0);
+        file.u2(1);
+        file.u2(attribute);
+        int content = file.u4(0) + 4;
+        file.set2(content - 2, total - content);
+        while (file.size < total) {
+            file.u1(255);
+        }
+        return file;
+    }
+
     byte[] toBytes() {
         return Arrays.copyOf(bytes, size);
     }

@@ -88,10 +88,21 @@ public final class MirrorTest {
         dueRow(x, 7, "Lp/A;", null, null);
         dueRow(x, 8, null, "<init>", null);
         dueTexts(x, 9, null);
+        noFileTables();
+        valuesOfMembers();
+    }
+
+    /** Every test keeps to the 512 calls of an object. */
+    private static void noFileTables() {
+        ClassFileReader x = readerOf(memberFile());
         for (int kind = 10; kind <= 20; kind++) {
             dueRow(x, kind);
         }
         dueRow(x, -1);
+    }
+
+    private static void valuesOfMembers() {
+        ClassFileReader x = readerOf(memberFile());
         check.due("constant(0)", x.constant(0), -7);
         int[] without = {1, 2, 3, 16, -1, Integer.MAX_VALUE, Integer.MIN_VALUE};
         for (int k : without) {
@@ -223,6 +234,14 @@ public final class MirrorTest {
             dueRow(x, kind);
         }
         dueTexts(x, 9, "NestHost");
+        textsOfTables();
+        check.due("constant(0)", x.constant(0), ClassFileReader.NONE);
+        check.due("exceptions(0)", x.exceptions(0), ClassFileReader.REFUSED);
+        check.due("exception(0, 0, 0)", x.exception(0, 0, 0), -1);
+    }
+
+    private static void textsOfTables() {
+        ClassFileReader x = readerOf(tableFile());
         dueRow(x, 10, "xs", "B");
         dueRow(x, 11, "[I", "[I");
         dueRow(x, 12, null, "xs");
@@ -236,9 +255,6 @@ public final class MirrorTest {
         dueDeprecated(x, 0);
         dueDeprecated(x, 1);
         dueDeprecated(x, 2, 0, 1);
-        check.due("constant(0)", x.constant(0), ClassFileReader.NONE);
-        check.due("exceptions(0)", x.exceptions(0), ClassFileReader.REFUSED);
-        check.due("exception(0, 0, 0)", x.exception(0, 0, 0), -1);
     }
 
     private static void bareFile() {
@@ -409,7 +425,7 @@ public final class MirrorTest {
         int self = bare.classOf("Q");
         bare.endPool().header(0, self, 0);
         bare.endEmpty();
-        for (int turn = 0; turn < 3; turn++) {
+        for (int turn = 0; turn < 2; turn++) {
             x.drop();
             FileBytes.putAll(x, tableFile().toBytes());
             check.dueRead("tables", x, 0, -1);
