@@ -368,12 +368,32 @@ public final class AttributeBoundaryTest extends AttributeTables {
                 int[] items = new int[n + 1];
                 java.util.Arrays.fill(items, SELF);
                 items[0] = n;
-                check.dueSound(n + " in " + list, end(kind, withList(kind, list, 2 + 2 * n, items)));
+                items[n] = ARRAY;
+                ClassFileReader x = end(kind, withList(kind, list, 2 + 2 * n, items)).reader();
+                check.dueRead(n + " in " + list, x, 0, -1);
+                dueLast(list, x, n);
                 items[n] = NAME;
                 FileBytes wrong = withList(kind, list, 2 + 2 * n, items);
                 check.dueRead("the last is no class", wrong, ClassFileReader.INDEX, wrong.size() - 2);
             }
         }
+    }
+
+    /** The last of n elements is "[I", and there is none behind it. */
+    private static void dueLast(String list, ClassFileReader x, int n) {
+        if (list.equals("Exceptions")) {
+            check.due("exceptions(0)", x.exceptions(0), n);
+            check.due("the last but one", x.exception(0, n - 2, 0), 'A');
+            check.due("the last", x.exception(0, n - 1, 0), '[');
+            check.due("the next", x.exception(0, n, 0), -1);
+            return;
+        }
+        boolean members = list.equals("NestMembers");
+        check.due("how many", x.number(members ? 7 : 8), n);
+        check.due("how many of the other", x.number(members ? 8 : 7), 0);
+        check.dueText(x, members ? 17 : 18, n - 2, "A");
+        check.dueText(x, members ? 17 : 18, n - 1, "[I");
+        check.dueText(x, members ? 17 : 18, n, null);
     }
 
     private static void listElements() {

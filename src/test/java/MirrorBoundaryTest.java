@@ -35,6 +35,7 @@ public final class MirrorBoundaryTest {
         exceptionIfThereIsNone();
         constantsOfAWord();
         constantsOfTwoWords();
+        constantsAtTheEndsOfThePool();
         constantsOfStrings();
         constantIfThereIsNone();
         deprecatedOrNot();
@@ -187,6 +188,11 @@ public final class MirrorBoundaryTest {
         check.dueText(x, 0, 0, "Q");
         check.due("number(11)", x.number(11), 0);
         check.due("constant(1)", x.constant(1), NONE);
+        check.dueRead("the bare file again", x, 0, -1);
+        check.due("number(4)", x.number(4), 0);
+        check.due("number(5)", x.number(5), 0);
+        check.due("number(9)", x.number(9), 0);
+        check.dueText(x, 10, 0, null);
     }
 
     private static void readAnswersAndMirrors() {
@@ -440,8 +446,10 @@ public final class MirrorBoundaryTest {
             check.dueText(y, signatures[i], 1, there[i]);
         }
         ClassFileReader z = sound(lists());
+        check.dueText(z, 13, 0, "p/B");
         check.dueText(z, 14, 0, "A");
         check.dueText(z, 15, 0, "B");
+        check.dueText(z, 13, 1, "A");
         check.dueText(z, 14, 1, null);
         check.dueText(z, 15, 1, null);
     }
@@ -639,6 +647,42 @@ public final class MirrorBoundaryTest {
             for (long value : far) {
                 check.due("constant(0) of " + type + " " + value, constantOf(type, tag, value), NONE);
             }
+        }
+    }
+
+    /** The constant is the first entry of the pool, or the last one that a full pool can have. */
+    private static FileBytes constantAt(int tag, boolean first) {
+        boolean wide = tag == FileBytes.LONG || tag == FileBytes.DOUBLE;
+        FileBytes file = FileBytes.start();
+        int before = first ? addConstant(file, tag) : 0;
+        int self = file.classOf("A");
+        int type = file.text("IFJD".substring(tag - FileBytes.INT, tag - FileBytes.INT + 1));
+        int last = file.text("ConstantValue");
+        int most = wide ? 61 : 62;
+        while (!first && last < most) {
+            last = file.word(FileBytes.INT, 0);
+        }
+        int constant = first ? before : addConstant(file, tag);
+        check.due("its index", constant, first ? 1 : most + 1);
+        file.endPool().header(33, self, 0);
+        file.u2(1);
+        file.member(0, type, type, 1);
+        file.attribute(type + 1, constant);
+        file.u2(0);
+        file.u2(0);
+        return file;
+    }
+
+    private static int addConstant(FileBytes file, int tag) {
+        boolean wide = tag == FileBytes.LONG || tag == FileBytes.DOUBLE;
+        return wide ? file.wide(tag, -5) : file.word(tag, -5);
+    }
+
+    private static void constantsAtTheEndsOfThePool() {
+        check.sentence("What ConstantValue of field k names: the first entry and the last");
+        for (int tag = FileBytes.INT; tag <= FileBytes.DOUBLE; tag++) {
+            check.due("constant(0) of " + tag, sound(constantAt(tag, true)).constant(0), -5);
+            check.due("constant(0) of " + tag, sound(constantAt(tag, false)).constant(0), -5);
         }
     }
 
