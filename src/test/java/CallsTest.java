@@ -1,4 +1,4 @@
-/** All promises: runs of up to 512 calls on one object, with edges and wrong arguments, held against the ModelReader. */
+/** All promises: runs of 512 calls on one object, with edges and wrong arguments, held against the ModelReader. */
 public final class CallsTest {
     private static final Check check = new Check();
     private static final int RUNS = 4000;
